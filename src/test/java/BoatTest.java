@@ -287,13 +287,6 @@ public final class BoatTest {
         DUE.is("rim(5, 0)", x.rim(5, 0), -2);
         DUE.is("rim(5, 100)", x.rim(5, 100), -2);
         DUE.is("rim(6, 0)", x.rim(6, 0), -1);
-        // 49 and 50 again: with 4819 and 4919 left, 52 and 53 of 91, but 4738 and 4838 are 53 of 89 and 54
-        BoatsOfPaper y = new BoatsOfPaper();
-        y.boat(9, 9, 1, 4);
-        DUE.is("rim(0, 91)", y.rim(0, 91), 2);
-        // 4576 and 4676 left: 49 and 50 of 92, but 47 of 97 and 48; 46 of 99 and 47
-        y.boat(9, 9, 4, 4);
-        DUE.is("rim(1, 92)", y.rim(1, 92), 2);
     }
 
     private static void orders() {
