@@ -341,6 +341,10 @@ public final class BoatTest {
         BoatsOfPaper x = new BoatsOfPaper();
         x.boat(3, 11, 6, 1);
         DUE.is("no coins", x.order(0, 0), -9);
+        x.coin(0, 0, 4, 99);
+        DUE.is("the only order", x.order(0, 0), 0);
+        DUE.is("order(0, 1)", x.order(0, 1), -9);
+        x.empty(0);
         x.coin(0, 0, 8, 99);
         x.coin(0, 0, 8, 99);
         x.coin(0, 0, 0, 1);

@@ -139,6 +139,12 @@ public final class DriftTest {
         DUE.isFraction("home(0, 0)", x.home(0, 0, true), x.home(0, 0, false), 3, 10);
         DUE.isFraction("home(0, 1)", x.home(0, 1, true), x.home(0, 1, false), 3, 10);
         DUE.isFraction("home(0, 2)", x.home(0, 2, true), x.home(0, 2, false), 3, 100);
+        Due.dig(x, "9W9W9W9W9W9W/W9W9W9W9W9W9");
+        DUE.isFraction("119 seconds, blown behind each place", x.home(0, 0, true), x.home(0, 0, false), 1, 1);
+        x.wax(0, 0, 5);
+        DUE.isFraction("just too long", x.home(0, 0, true), x.home(0, 0, false), 0, 1);
+        x.wax(0, 0, 6);
+        DUE.isFraction("120 seconds", x.home(0, 0, true), x.home(0, 0, false), 1, 1);
         Due.dig(x, "LLLLLLLLLLLL/LLLLLLLLLLLL/LLLLLLLLLLLL");
         DUE.isFraction("leaves alone", x.home(0, 2, true), x.home(0, 2, false), power, below);
     }
@@ -235,7 +241,21 @@ public final class DriftTest {
         DUE.is("3 seconds", x.first(three, 0), 1);
         int two = shortBoat(x, 2);
         DUE.is("2 seconds", x.first(two, 0), 0);
-        DUE.is("as if it came home", x.first(two, 1), 1);
+        DUE.is("its own, that it comes home in", x.first(two, 1), 1);
+        firstInTime();
+    }
+
+    private static void firstInTime() {
+        BoatsOfPaper x = new BoatsOfPaper();
+        boatOf(x, 1);
+        Due.dig(x, "8L/11");
+        DUE.is("behind: just in time", x.first(0, 0), 1);
+        Due.dig(x, "9D/11");
+        DUE.is("behind: too late", x.first(0, 0), 0);
+        Due.dig(x, "11/8L");
+        DUE.is("before: just in time", x.first(0, 1), 0);
+        Due.dig(x, "11/9D");
+        DUE.is("before: too late", x.first(0, 1), 1);
     }
 
     private static void best() {
@@ -302,6 +322,10 @@ public final class DriftTest {
         DUE.is("likeliest(0, 3)", x.likeliest(0, 3), -1);
         DUE.is("likeliest(3, 0)", x.likeliest(3, 0), -1);
         DUE.is("likeliest(0, -1)", x.likeliest(0, -1), -1);
+        x.mishap(1, 1);
+        Due.dig(x, "LD");
+        DUE.is("a chance of a tenth", x.likeliest(0, 0), 0);
+        Due.dig(x, "9LD/1W1/99D");
         sunkBoat(x);
         DUE.is("one that is under at once", x.likeliest(0, 0), 4);
         DUE.isFraction("one that is under at once", x.whose(0, 0, 4, true), x.whose(0, 0, 4, false), 1, 1);

@@ -228,12 +228,16 @@ public final class ManyTest {
         y.run(3, true);
         DUE.is("keep(1)", y.keep(1), 0);
         y.boat(9, 9, 1, 1);
+        y.wax(0, 77, 7);
+        y.coin(0, 0, 0, 7);
         y.unrun();
         DUE.is("again(1)", y.again(1), 0);
         DUE.is("count(1)", y.count(1), 0);
         DUE.is("count(3)", y.count(3), 1);
         DUE.is("a new boat's number", y.boat(5, 6, 1, 1), 0);
         DUE.is("a new boat drinks", y.about(0, 6), 10);
+        DUE.is("a new boat's wax", y.about(0, 7), 0);
+        DUE.is("a new boat's coins", y.about(0, 8), 0);
     }
 
     private static void count() {
